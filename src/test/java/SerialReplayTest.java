@@ -1,0 +1,210 @@
+import java.util.ArrayList;
+import java.util.List;
+import java.util.Random;
+import java.util.TreeMap;
+
+/**
+ * Four workers run random procedures side by side. Those that come through the look again are done once more, one
+ * after the other in the order in which they came through, on a plain map: results and records must be the same.
+ */
+final class SerialReplayTest {
+    private static final int ROUNDS = 3000;
+
+    private final Random random;
+    private final EpochLeaves x = new EpochLeaves();
+    private final List<List<int[]>> procedures = new ArrayList<>();
+    private final List<int[]> starts = new ArrayList<>();
+    private final List<Integer> order = new ArrayList<>();
+    private final int keys;
+
+    private SerialReplayTest(int seed) {
+        random = new Random(seed);
+        keys = 1 + random.nextInt(32);
+        for (int p = 0; p < 4; p++) {
+            procedures.add(new ArrayList<>());
+            int length = 1 + random.nextInt(12);
+            for (int i = 0; i < length; i++) {
+                appendRandom(p);
+            }
+        }
+    }
+
+    public static void main(String[] args) {
+        int committed = 0;
+        int lost = 0;
+        int aborted = 0;
+        for (int seed = 0; seed < ROUNDS; seed++) {
+            SerialReplayTest test = new SerialReplayTest(seed);
+            test.work();
+            committed += test.count(2) + test.count(3);
+            aborted += test.count(4);
+            lost += test.count(5);
+        }
+        System.out.println(committed + " committed, " + aborted + " aborted, " + lost + " lost");
+        Check.due("there were commits, aborts and losses", committed > 0 && aborted > 0 && lost > 0, true);
+        Check.end();
+    }
+
+    private void appendRandom(int p) {
+        int[] ops = {Check.SET, Check.ADD, Check.SUB, Check.MUL, Check.LESS, Check.ZERO, Check.GET, Check.GET, Check.GET,
+            Check.PUT, Check.PUT, Check.PUT, Check.DROP, Check.SUM, Check.SUM, Check.GIVE, Check.FAIL};
+        int op = ops[random.nextInt(random.nextInt(3) == 0 ? ops.length : ops.length - 2)];
+        int a = random.nextInt(7);
+        int b = random.nextInt(4);
+        int c = random.nextInt(4);
+        if (op == Check.SET) {
+            a = 2 + random.nextInt(5);
+            b = random.nextInt(keys);
+        }
+        if (op == Check.ZERO) {
+            b = random.nextInt(16);
+        }
+        if (op >= Check.PUT && op <= Check.DROP) {
+            a = random.nextInt(4);
+        }
+        if (op == Check.DROP || op == Check.GIVE || op == Check.FAIL) {
+            b = 0;
+        }
+        if (op == Check.SET || (op >= Check.ZERO && op != Check.SUM)) {
+            c = 0;
+        }
+        if (op == Check.FAIL) {
+            a = 0;
+        }
+        Check.due("code", x.code(p, op, a, b, c), procedures.get(p).size());
+        procedures.get(p).add(new int[] {op, a, b, c});
+    }
+
+    private void work() {
+        for (int calls = 0; calls < 400; calls++) {
+            int w = random.nextInt(4);
+            int what = random.nextInt(40);
+            if (what < 8) {
+                startOne(w);
+            } else if (what < 36) {
+                stepOne(w);
+            } else if (what < 37) {
+                x.advance();
+            } else if (what < 39) {
+                x.flush(w);
+            } else if (random.nextInt(8) == 0) {
+                x.crash();
+                compareRecords(replay());
+            }
+        }
+        endAll();
+    }
+
+    private void startOne(int w) {
+        int p = random.nextInt(4);
+        int a = random.nextInt(keys);
+        int b = random.nextInt(keys);
+        if (x.start(w, p, a, b) > 0) {
+            starts.add(new int[] {p, a, b});
+        }
+    }
+
+    private int stepOne(int w) {
+        int t = x.worker(w, 1);
+        boolean fenced = x.worker(w, 0) == 3;
+        int answer = x.step(w);
+        if (fenced && answer == 1) {
+            order.add(t);
+        }
+        return answer;
+    }
+
+    private void endAll() {
+        for (int turns = 0; turns < 2000; turns++) {
+            stepOne(turns % 4);
+        }
+        for (int w = 0; w < 4; w++) {
+            Check.due("worker " + w + " comes to an end", x.worker(w, 0), 0);
+        }
+        x.advance();
+        Check.flushAll(x);
+        TreeMap<Integer, Integer> records = replay();
+        compareRecords(records);
+        Check.due("crash", x.crash(), x.epoch(1));
+        compareRecords(records);
+    }
+
+    /** Does all that came through and was not lost, and compares what is released. */
+    private TreeMap<Integer, Integer> replay() {
+        TreeMap<Integer, Integer> records = new TreeMap<>();
+        for (int t : order) {
+            if (x.transaction(t, 0) == 5) {
+                continue;
+            }
+            int[] start = starts.get(t - 1);
+            int result = replayOne(procedures.get(start[0]), start[1], start[2], records);
+            if (x.transaction(t, 0) == 3) {
+                Check.due("result(" + t + ")", x.result(t), result);
+            }
+        }
+        return records;
+    }
+
+    private static int replayOne(List<int[]> procedure, int x, int y, TreeMap<Integer, Integer> records) {
+        int[] r = new int[8];
+        r[0] = x;
+        r[1] = y;
+        int next = 0;
+        while (next < procedure.size()) {
+            int[] row = procedure.get(next);
+            next++;
+            int a = row[1];
+            int b = row[2];
+            int c = row[3];
+            switch (row[0]) {
+                case Check.SET -> r[a] = b;
+                case Check.ADD -> r[a] = r[b] + r[c];
+                case Check.SUB -> r[a] = r[b] - r[c];
+                case Check.MUL -> r[a] = r[b] * r[c];
+                case Check.LESS -> r[a] = r[b] < r[c] ? 1 : 0;
+                case Check.ZERO -> next = r[a] == 0 ? b : next;
+                case Check.GET -> {
+                    Integer value = records.get(r[b]);
+                    r[a] = value == null ? 0 : value;
+                    r[7] = value == null ? 0 : 1;
+                }
+                case Check.PUT -> records.put(r[a], r[b]);
+                case Check.DROP -> records.remove(r[a]);
+                case Check.SUM -> {
+                    int sum = 0;
+                    int many = 0;
+                    if (r[b] <= r[c]) {
+                        for (int value : records.subMap(r[b], true, r[c], true).values()) {
+                            sum += value;
+                            many++;
+                        }
+                    }
+                    r[a] = sum;
+                    r[7] = many;
+                }
+                case Check.GIVE -> {
+                    return r[a];
+                }
+                default -> throw new IllegalStateException("an aborted run was committed");
+            }
+        }
+        return 0;
+    }
+
+    private void compareRecords(TreeMap<Integer, Integer> records) {
+        for (int key = 0; key < 32; key++) {
+            Integer value = records.get(key);
+            Check.due("entry(" + key + ", 0) is PRESENT", x.entry(key, 0) == 2, value != null);
+            Check.due("entry(" + key + ", 1)", x.entry(key, 1), value == null ? 0 : value);
+            Check.due("entry(" + key + ", 3)", x.entry(key, 3), 0);
+        }
+    }
+
+    private int count(int status) {
+        int many = 0;
+        for (int t = 1; t <= starts.size(); t++) {
+            many += x.transaction(t, 0) == status ? 1 : 0;
+        }
+        return many;
+    }
+}
