@@ -46,7 +46,7 @@ public final class EpochLeaves {
             procedures[p] = new Procedure();
         }
         for (int w = 0; w < WORKERS; w++) {
-            workers[w] = new Worker(w + 1, procedures[0]);
+            workers[w] = new Worker(w + 1);
             logs[w] = new Log();
         }
     }
@@ -59,7 +59,7 @@ public final class EpochLeaves {
     }
 
     public boolean clear(int p) {
-        if (!isProcedure(p) || isBeingRun(procedures[p])) {
+        if (!isProcedure(p) || isBeingRun(p)) {
             return false;
         }
         procedures[p].size = 0;
@@ -78,7 +78,7 @@ public final class EpochLeaves {
         }
         Transaction begun = new Transaction(transactions.size() + 1);
         transactions.add(begun);
-        workers[w].begin(begun, procedures[p], x, y);
+        workers[w].begin(begun, p, x, y);
         return begun.number;
     }
 
@@ -244,9 +244,9 @@ public final class EpochLeaves {
         return t >= 1 && t <= transactions.size();
     }
 
-    private boolean isBeingRun(Procedure procedure) {
+    private boolean isBeingRun(int p) {
         for (int w = 0; w < WORKERS; w++) {
-            if (workers[w].state == RUNNING && workers[w].procedure == procedure) {
+            if (workers[w].state == RUNNING && workers[w].procedureNumber == p) {
                 return true;
             }
         }
@@ -254,7 +254,8 @@ public final class EpochLeaves {
     }
 
     private int moveWorker(int w) {
-        int answer = workers[w].move(store, storeEpoch);
+        Procedure procedure = procedures[workers[w].procedureNumber];
+        int answer = workers[w].move(store, procedure, storeEpoch);
         if (answer == STEP_COMMITTED) {
             logs[w].kept.add(workers[w].work);
             releaseAllDue();
@@ -576,7 +577,7 @@ public final class EpochLeaves {
         // By key and by leaf's name less 1, or UNSEEN.
         final int[] readStamps = new int[KEYS];
         final int[] nodeVersions = new int[Store.MOST_LEAVES];
-        Procedure procedure;
+        int procedureNumber;
         Transaction work = new Transaction(0);
         int state = IDLE;
         int next;
@@ -586,14 +587,13 @@ public final class EpochLeaves {
         int ownEpoch;
         int latestStamp;
 
-        Worker(int sign, Procedure procedure) {
+        Worker(int sign) {
             this.sign = sign;
-            this.procedure = procedure;
         }
 
-        void begin(Transaction begun, Procedure begunProcedure, int x, int y) {
+        void begin(Transaction begun, int p, int x, int y) {
             work = begun;
-            procedure = begunProcedure;
+            procedureNumber = p;
             for (int r = 0; r < REGISTERS; r++) {
                 registers[r] = 0;
             }
@@ -624,9 +624,9 @@ public final class EpochLeaves {
             latestStamp = 0;
         }
 
-        int move(Store store, int storeEpoch) {
+        int move(Store store, Procedure procedure, int storeEpoch) {
             switch (state) {
-                case RUNNING: return goOn(store);
+                case RUNNING: return goOn(store, procedure);
                 case LOCKING: return lockOne(store, storeEpoch);
                 case FENCED: return lookAgain(store);
                 case INSTALLING: return installOne(store);
@@ -634,7 +634,7 @@ public final class EpochLeaves {
             }
         }
 
-        private int goOn(Store store) {
+        private int goOn(Store store, Procedure procedure) {
             if (next >= procedure.size) {
                 giveAndLock(0);
                 return STEP_DONE;

@@ -20,7 +20,18 @@ final class P03ClearTest {
         Check.due("gives at once", x.run(2, 4), 2);
         Check.due("and writes nothing", x.entry(5, 0), 0);
         oneOfTwoRuns();
+        anyWorkerCounts();
         Check.end();
+    }
+
+    private static void anyWorkerCounts() {
+        for (int w = 0; w < 4; w++) {
+            EpochLeaves x = Check.withProcedures();
+            x.start(w, w, 3, 4);
+            for (int p = 0; p < 4; p++) {
+                Check.due("worker " + w + " runs: clear(" + p + ")", x.clear(p), p != w);
+            }
+        }
     }
 
     private static void oneOfTwoRuns() {

@@ -11,6 +11,7 @@ final class P05StepCommitTest {
         abortsForChangedNode();
         firstSightCounts();
         abortFreesLocks();
+        firstAndLastKey();
         epochIsTakenAtTheFence();
         stamps();
         installsAscending();
@@ -225,6 +226,27 @@ final class P05StepCommitTest {
             Check.due("stamp: " + key, x.entry(key, 2), 0);
         }
         Check.due("nothing in the log", x.log(0, 0), 0);
+    }
+
+    private static void firstAndLastKey() {
+        for (int key = 0; key < 32; key += 31) {
+            EpochLeaves x = Check.withProcedures();
+            x.start(0, 0, key, 1);
+            x.run(0, 5);
+            Check.due("locked", x.entry(key, 3), 1);
+            Check.commit(x, 1, 1, 15, 1);
+            Check.due("aborted", x.run(0, 100), 3);
+            Check.due("free", x.entry(key, 3), 0);
+            int put = Check.commit(x, 1, 1, key, 1);
+            int over = Check.commit(x, 2, 1, key, 1);
+            Check.due("greater than what it writes over", x.transaction(over, 1), x.transaction(put, 1) + 1);
+            int sum = Check.commit(x, 3, 2, key, key);
+            Check.due("greater than what it read", x.transaction(sum, 1), x.transaction(over, 1) + 1);
+            x.start(0, 2, key, key);
+            x.step(0);
+            Check.commit(x, 1, 1, key, 1);
+            Check.due("what it read was changed", x.run(0, 100), 3);
+        }
     }
 
     private static void epochIsTakenAtTheFence() {

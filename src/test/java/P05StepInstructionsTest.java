@@ -266,6 +266,21 @@ final class P05StepInstructionsTest {
         Check.due("SUM then", x.step(2), 1);
         Check.due("its sum", x.register(2, 2), 41);
         ownWritesAreNotBlocked();
+        blockedAtTheEnds();
+    }
+
+    private static void blockedAtTheEnds() {
+        EpochLeaves x = Check.withProcedures();
+        x.start(0, 1, 3, 41);
+        x.run(0, 3);
+        int[][] rows = {{3, 9, 0}, {0, 3, 0}, {3, 3, 0}, {0, 2, 1}, {4, 9, 1}};
+        for (int[] row : rows) {
+            x.start(1, 2, row[0], row[1]);
+            Check.due("SUM of " + row[0] + " to " + row[1], x.step(1), row[2]);
+            x.crash();
+            x.start(0, 1, 3, 41);
+            x.run(0, 3);
+        }
     }
 
     private static void ownWritesAreNotBlocked() {

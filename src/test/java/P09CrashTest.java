@@ -7,6 +7,7 @@ final class P09CrashTest {
         dropsCount();
         makesLeavesAnew();
         losesRuns();
+        emptiesAllKeys();
         stampsBeginAnew();
         marksFall();
         Check.end();
@@ -32,6 +33,8 @@ final class P09CrashTest {
         Check.commit(x, 2, 1, 6, 60);
         x.flush(2);
         Check.due("durable in one log", x.log(2, 1), 2);
+        Check.commit(x, 1, 1, 7, 70);
+        Check.due("not durable", x.log(1, 1), 1);
         Check.due("crash", x.crash(), 1);
         Check.due("kept", x.transaction(1, 0) + x.transaction(2, 0), 6);
         Check.due("lost", x.transaction(3, 0) + x.transaction(4, 0) + x.transaction(5, 0), 15);
@@ -43,15 +46,17 @@ final class P09CrashTest {
         Check.due("the lost keys", x.entry(5, 0) + x.entry(6, 0), 0);
         Check.due("log(0, 0)", x.log(0, 0), 1);
         Check.due("log(0, 1)", x.log(0, 1), 1);
+        Check.due("log(1, 0)", x.log(1, 0), 1);
+        Check.due("log(1, 1)", x.log(1, 1), 1);
         Check.due("log(2, 0)", x.log(2, 0), 0);
         Check.due("log(2, 1)", x.log(2, 1), 0);
         Check.due("epoch(0)", x.epoch(0), 2);
-        Check.due("numbers go on", x.start(0, 1, 3, 33), 6);
+        Check.due("numbers go on", x.start(0, 1, 3, 33), 7);
         Check.due("procedures stay", x.run(0, 100), 2);
         x.advance();
         Check.due("lost ones are not released", Check.flushAll(x), 1);
         Check.due("still lost", x.transaction(3, 0), 5);
-        Check.due("the new one", x.result(6), 33);
+        Check.due("the new one", x.result(7), 33);
     }
 
     private static void latestStampCounts() {
@@ -107,6 +112,21 @@ final class P09CrashTest {
         Check.due("its version: two records were added, then a third with a split", x.leaf(9, 1), 4);
         Check.due("records of the last", x.leaf(10, 2), 2);
         Check.due("version of the last", x.leaf(10, 1), 0);
+    }
+
+    private static void emptiesAllKeys() {
+        EpochLeaves x = Check.withProcedures();
+        for (int key = 0; key < 32; key++) {
+            Check.commit(x, 0, 1, key, 5);
+        }
+        Check.due("crash", x.crash(), 0);
+        for (int key = 0; key < 32; key++) {
+            for (int what = 0; what < 4; what++) {
+                Check.due("entry(" + key + ", " + what + ")", x.entry(key, what), 0);
+            }
+        }
+        Check.due("leaf(0, 2)", x.leaf(0, 2), 0);
+        Check.due("leaf(1, 2)", x.leaf(1, 2), EpochLeaves.BAD);
     }
 
     private static void losesRuns() {

@@ -46,8 +46,8 @@ final class SerialReplayTest {
     }
 
     private void appendRandom(int p) {
-        int[] ops = {Check.SET, Check.ADD, Check.SUB, Check.MUL, Check.LESS, Check.ZERO, Check.GET, Check.GET, Check.GET,
-            Check.PUT, Check.PUT, Check.PUT, Check.DROP, Check.SUM, Check.SUM, Check.GIVE, Check.FAIL};
+        int[] ops = {Check.SET, Check.ADD, Check.SUB, Check.MUL, Check.LESS, Check.ZERO, Check.GET, Check.GET,
+            Check.GET, Check.PUT, Check.PUT, Check.PUT, Check.DROP, Check.SUM, Check.SUM, Check.GIVE, Check.FAIL};
         int op = ops[random.nextInt(random.nextInt(3) == 0 ? ops.length : ops.length - 2)];
         int a = random.nextInt(7);
         int b = random.nextInt(4);
@@ -150,7 +150,11 @@ final class SerialReplayTest {
         r[0] = x;
         r[1] = y;
         int next = 0;
-        while (next < procedure.size()) {
+        for (int done = 0; next < procedure.size(); done++) {
+            Check.due("too many instructions were done", done == 60, false);
+            if (done == 60) {
+                return 0;
+            }
             int[] row = procedure.get(next);
             next++;
             int a = row[1];
