@@ -15,14 +15,18 @@ final class SerialReplayTest {
     private final List<List<int[]>> procedures = new ArrayList<>();
     private final List<int[]> starts = new ArrayList<>();
     private final List<Integer> order = new ArrayList<>();
+    private final int[] transactionOf = new int[4];
     private final int keys;
+    private int committed;
+    private int aborted;
+    private int lost;
 
     private SerialReplayTest(int seed) {
         random = new Random(seed);
         keys = 1 + random.nextInt(32);
         for (int p = 0; p < 4; p++) {
             procedures.add(new ArrayList<>());
-            int length = 1 + random.nextInt(12);
+            int length = 1 + random.nextInt(10);
             for (int i = 0; i < length; i++) {
                 appendRandom(p);
             }
@@ -36,9 +40,11 @@ final class SerialReplayTest {
         for (int seed = 0; seed < ROUNDS; seed++) {
             SerialReplayTest test = new SerialReplayTest(seed);
             test.work();
-            committed += test.count(2) + test.count(3);
-            aborted += test.count(4);
-            lost += test.count(5);
+            test.endAll();
+            test.compareAll(seed % 2 == 0);
+            committed += test.committed;
+            aborted += test.aborted;
+            lost += test.lost;
         }
         System.out.println(committed + " committed, " + aborted + " aborted, " + lost + " lost");
         Check.due("there were commits, aborts and losses", committed > 0 && aborted > 0 && lost > 0, true);
@@ -75,72 +81,84 @@ final class SerialReplayTest {
         procedures.get(p).add(new int[] {op, a, b, c});
     }
 
+    // An object has 512 calls: 70 turns of three at most leave enough for the procedures and the comparing.
     private void work() {
-        for (int calls = 0; calls < 400; calls++) {
+        for (int turns = 0; turns < 70; turns++) {
             int w = random.nextInt(4);
             int what = random.nextInt(40);
-            if (what < 8) {
+            if (what < 9) {
                 startOne(w);
             } else if (what < 36) {
-                stepOne(w);
+                moveOne(w, 1 + random.nextInt(6));
             } else if (what < 37) {
                 x.advance();
             } else if (what < 39) {
                 x.flush(w);
-            } else if (random.nextInt(8) == 0) {
+            } else if (random.nextInt(4) == 0) {
                 x.crash();
-                compareRecords(replay());
             }
         }
-        endAll();
     }
 
     private void startOne(int w) {
         int p = random.nextInt(4);
         int a = random.nextInt(keys);
         int b = random.nextInt(keys);
-        if (x.start(w, p, a, b) > 0) {
+        int t = x.start(w, p, a, b);
+        if (t > 0) {
             starts.add(new int[] {p, a, b});
+            transactionOf[w] = t;
         }
     }
 
-    private int stepOne(int w) {
-        int t = x.worker(w, 1);
-        boolean fenced = x.worker(w, 0) == 3;
-        int answer = x.step(w);
-        if (fenced && answer == 1) {
-            order.add(t);
+    /** At most n steps; if the look again was among them, the transaction has its place in the order. */
+    private int moveOne(int w, int n) {
+        int before = x.worker(w, 0);
+        int answer = x.run(w, n);
+        boolean through = answer == 2 || answer == 1 && x.worker(w, 0) == 4;
+        if (before < 4 && through) {
+            order.add(transactionOf[w]);
         }
+        committed += answer == 2 ? 1 : 0;
+        aborted += answer == 3 ? 1 : 0;
         return answer;
     }
 
+    // Locks are taken by ascending keys, so of those that wait at least one always comes to its end.
     private void endAll() {
-        for (int turns = 0; turns < 2000; turns++) {
-            stepOne(turns % 4);
+        for (int turns = 0; turns < 4; turns++) {
+            for (int w = 0; w < 4; w++) {
+                moveOne(w, 100);
+                moveOne(w, 100);
+            }
         }
         for (int w = 0; w < 4; w++) {
             Check.due("worker " + w + " comes to an end", x.worker(w, 0), 0);
         }
         x.advance();
         Check.flushAll(x);
-        TreeMap<Integer, Integer> records = replay();
-        compareRecords(records);
-        Check.due("crash", x.crash(), x.epoch(1));
-        compareRecords(records);
+    }
+
+    private void compareAll(boolean crashed) {
+        if (crashed) {
+            Check.due("crash", x.crash(), x.epoch(1));
+        }
+        compareRecords(replay());
     }
 
     /** Does all that came through and was not lost, and compares what is released. */
     private TreeMap<Integer, Integer> replay() {
         TreeMap<Integer, Integer> records = new TreeMap<>();
         for (int t : order) {
-            if (x.transaction(t, 0) == 5) {
+            int status = x.transaction(t, 0);
+            Check.due("transaction " + t + " is RELEASED or LOST", status == 3 || status == 5, true);
+            if (status == 5) {
+                lost++;
                 continue;
             }
             int[] start = starts.get(t - 1);
             int result = replayOne(procedures.get(start[0]), start[1], start[2], records);
-            if (x.transaction(t, 0) == 3) {
-                Check.due("result(" + t + ")", x.result(t), result);
-            }
+            Check.due("result(" + t + ")", x.result(t), result);
         }
         return records;
     }
@@ -202,13 +220,5 @@ final class SerialReplayTest {
             Check.due("entry(" + key + ", 1)", x.entry(key, 1), value == null ? 0 : value);
             Check.due("entry(" + key + ", 3)", x.entry(key, 3), 0);
         }
-    }
-
-    private int count(int status) {
-        int many = 0;
-        for (int t = 1; t <= starts.size(); t++) {
-            many += x.transaction(t, 0) == status ? 1 : 0;
-        }
-        return many;
     }
 }

@@ -1,23 +1,32 @@
-import java.util.Arrays;
 import java.util.Random;
 
 /** Random calls with right and wrong numbers: none throws, a refused one changes nothing, and all fits together. */
 final class WildCallsTest {
-    private static final int ROUNDS = 400;
+    private static final int ROUNDS = 150;
+    // An object has 512 calls: what is asked behind these takes less than the rest.
+    private static final int CALLS = 140;
     private static final int[] WILD = {Integer.MIN_VALUE, -1001, -2, -1, 4, 8, 12, 16, 32, 1001, Integer.MAX_VALUE};
 
     private final Random random;
-    private final EpochLeaves x = new EpochLeaves();
+    private final int seed;
+    private final int[][] calls = new int[CALLS][6];
 
     private WildCallsTest(int seed) {
+        this.seed = seed;
         random = new Random(seed);
+        for (int[] call : calls) {
+            fill(call);
+        }
     }
 
     public static void main(String[] args) {
         for (int seed = 0; seed < ROUNDS; seed++) {
             WildCallsTest test = new WildCallsTest(seed);
-            for (int calls = 0; calls < 512; calls++) {
-                test.one();
+            test.refusedOnesChangeNothing();
+            for (int many = 0; many <= CALLS; many += 7) {
+                leavesFit(test.playedTo(many));
+                epochsFit(test.playedTo(many));
+                workersFit(test.playedTo(many));
             }
         }
         Check.end();
@@ -27,62 +36,60 @@ final class WildCallsTest {
         return random.nextInt(60) == 0 ? WILD[random.nextInt(WILD.length)] : random.nextInt(bound);
     }
 
-    private void one() {
-        int[] before = told();
-        int epochBefore = x.epoch(0);
-        int kind = random.nextInt(60);
-        int answer;
+    private void fill(int[] call) {
+        call[0] = random.nextInt(60);
+        boolean codes = call[0] < 12;
+        call[1] = below(4);
+        call[2] = below(codes ? 12 : call[0] < 22 ? 4 : 101);
+        call[3] = below(codes ? 8 : 32);
+        call[4] = codes && random.nextBoolean() ? 0 : below(32);
+        call[5] = below(4);
+    }
+
+    private static int answer(EpochLeaves x, int[] call) {
+        int kind = call[0];
         if (kind < 12) {
-            answer = x.code(below(4), below(12), below(8), random.nextBoolean() ? 0 : below(32), below(4));
-        } else if (kind == 12) {
-            answer = x.clear(below(4)) ? 1 : -1;
-        } else if (kind < 22) {
-            answer = x.start(below(4), below(4), below(32), below(32));
-        } else if (kind < 40) {
-            answer = x.step(below(4));
-        } else if (kind < 50) {
-            answer = x.run(below(4), below(101));
-        } else if (kind < 54) {
-            answer = x.advance();
-        } else if (kind < 59) {
-            answer = x.flush(below(4));
-        } else {
-            answer = x.crash();
-            Check.due("the epoch behind a crash is not greater", x.epoch(0) <= epochBefore, true);
+            return x.code(call[1], call[2], call[3], call[4], call[5]);
         }
-        int[] after = told();
-        if (answer < 0) {
-            Check.due("a refused call of kind " + kind + " changes nothing", Arrays.equals(before, after), true);
+        if (kind == 12) {
+            return x.clear(call[1]) ? 1 : -1;
         }
-        leavesFit();
-        epochsFit();
-        workersFit();
+        if (kind < 22) {
+            return x.start(call[1], call[2], call[3], call[4]);
+        }
+        if (kind < 40) {
+            return x.step(call[1]);
+        }
+        if (kind < 50) {
+            return x.run(call[1], call[2]);
+        }
+        if (kind < 54) {
+            return x.advance();
+        }
+        return kind < 59 ? x.flush(call[1]) : x.crash();
     }
 
-    private int[] told() {
-        int[] all = new int[128 + 64 + 60 + 12 + 2 + 200];
-        int at = 0;
-        for (int i = 0; i < 128; i++) {
-            all[at++] = x.entry(i / 4, i % 4);
+    private EpochLeaves playedTo(int many) {
+        EpochLeaves x = new EpochLeaves();
+        for (int i = 0; i < many; i++) {
+            answer(x, calls[i]);
         }
-        for (int i = 0; i < 64; i++) {
-            all[at++] = x.leaf(i / 4, i % 4);
-        }
-        for (int i = 0; i < 60; i++) {
-            all[at++] = i % 15 < 7 ? x.worker(i / 15, i % 15) : x.register(i / 15, i % 15 - 7);
-        }
-        for (int i = 0; i < 12; i++) {
-            all[at++] = x.log(i / 3, i % 3);
-        }
-        all[at++] = x.epoch(0);
-        all[at++] = x.epoch(1);
-        for (int i = 0; i < 200; i++) {
-            all[at++] = x.transaction(1 + i / 2, i % 2);
-        }
-        return all;
+        return x;
     }
 
-    private void leavesFit() {
+    private void refusedOnesChangeNothing() {
+        EpochLeaves x = new EpochLeaves();
+        for (int i = 0; i < CALLS; i++) {
+            int[] call = calls[i];
+            int before = i;
+            int got = answer(x, call);
+            if (got < 0) {
+                Twin.refused("call " + i + " of round " + seed, () -> playedTo(before), y -> answer(y, call), got);
+            }
+        }
+    }
+
+    private static void leavesFit(EpochLeaves x) {
         int records = 0;
         for (int key = 0; key < 32; key++) {
             records += x.entry(key, 0) == 0 ? 0 : 1;
@@ -101,27 +108,31 @@ final class WildCallsTest {
         Check.due("records in all leaves", inLeaves, records);
     }
 
-    private void epochsFit() {
+    private static void epochsFit(EpochLeaves x) {
         int least = Integer.MAX_VALUE;
+        int epoch = x.epoch(0);
         for (int w = 0; w < 4; w++) {
-            least = Math.min(least, x.log(w, 2));
+            int mark = x.log(w, 2);
+            least = Math.min(least, mark);
             Check.due("no more durable than kept", x.log(w, 1) <= x.log(w, 0), true);
-            Check.due("a mark lies below the epoch", x.log(w, 2) < x.epoch(0), true);
+            Check.due("a mark lies below the epoch", mark < epoch, true);
         }
-        Check.due("the durable epoch", x.epoch(1), least);
-        for (int t = 1; x.transaction(t, 0) != EpochLeaves.BAD; t++) {
-            int status = x.transaction(t, 0);
+        int durable = x.epoch(1);
+        Check.due("the durable epoch", durable, least);
+        int status = x.transaction(1, 0);
+        for (int t = 1; status != EpochLeaves.BAD; t++) {
             int stamp = x.transaction(t, 1);
             Check.due("stamped when committed", stamp != 0, status == 2 || status == 3);
             if (stamp != 0) {
-                Check.due("released when durable", status == 3, stamp / 1024 <= x.epoch(1));
+                Check.due("released when durable", status == 3, stamp / 1024 <= durable);
             } else {
                 Check.due("no result", x.result(t), 0);
             }
+            status = x.transaction(t + 1, 0);
         }
     }
 
-    private void workersFit() {
+    private static void workersFit(EpochLeaves x) {
         for (int key = 0; key < 32; key++) {
             int lock = x.entry(key, 3);
             Check.due("a locker is LOCKING or later", lock == 0 || x.worker(lock - 1, 0) >= 2, true);
