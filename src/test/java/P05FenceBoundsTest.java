@@ -12,6 +12,7 @@ final class P05FenceBoundsTest {
         aNodeWithAnotherVersion();
         aReadAndLaterWrittenKey();
         firstSightCounts();
+        firstSightOfALeafCounts();
         theLastMoment();
         changedBehindTheLook();
         twoWhoReadWhatTheOtherWrites();
@@ -175,6 +176,28 @@ final class P05FenceBoundsTest {
         Check.due("it sees the new record", x.register(0, 5), 2);
         Check.due("two reads, one node", x.worker(0, 5) * 10 + x.worker(0, 6), 21);
         Check.due("the version first seen counts", x.run(0, 100), 3);
+    }
+
+    private static void firstSightOfALeafCounts() {
+        EpochLeaves x = Check.withProcedures();
+        x.clear(2);
+        x.code(2, Check.GET, 2, 0, 0);
+        x.code(2, Check.GET, 3, 0, 0);
+        x.start(0, 2, 9, 0);
+        x.step(0);
+        Check.commit(x, 1, 1, 10, 1);
+        x.step(0);
+        Check.due("one node", x.worker(0, 6), 1);
+        Check.due("the version of the first GET counts", x.run(0, 100), 3);
+        x.clear(3);
+        x.code(3, Check.SUM, 2, 0, 1);
+        x.code(3, Check.SUM, 3, 0, 1);
+        x.start(0, 3, 20, 31);
+        x.step(0);
+        Check.commit(x, 1, 1, 11, 1);
+        x.step(0);
+        Check.due("one node", x.worker(0, 6), 1);
+        Check.due("the version of the first SUM counts", x.run(0, 100), 3);
     }
 
     private static void theLastMoment() {

@@ -19,6 +19,7 @@ final class P05KeyBoundsTest {
         theKeyOfAPutIsTakenAtOnce();
         aLaterWriteReplaces();
         ownWritesAreSeen();
+        anOwnPutOf0IsAValue();
         Check.end();
     }
 
@@ -280,5 +281,21 @@ final class P05KeyBoundsTest {
         Check.due("SUM of both", x.register(1, 5), 100);
         Check.due("one has a value", x.register(1, 7), 1);
         Check.due("SUM keeps no read of them", x.worker(1, 5), 0);
+    }
+
+    private static void anOwnPutOf0IsAValue() {
+        EpochLeaves x = Check.withProcedures();
+        Check.commit(x, 0, 1, 9, 5);
+        x.clear(2);
+        x.code(2, Check.PUT, 0, 1, 0);
+        x.code(2, Check.GET, 2, 0, 0);
+        x.code(2, Check.SUM, 3, 1, 0);
+        x.start(1, 2, 9, 0);
+        x.run(1, 2);
+        Check.due("GET of it", x.register(1, 2), 0);
+        Check.due("it is a value", x.register(1, 7), 1);
+        x.step(1);
+        Check.due("SUM of 0 to 9", x.register(1, 3), 0);
+        Check.due("one has a value", x.register(1, 7), 1);
     }
 }

@@ -9,6 +9,7 @@ final class P05LeafBoundsTest {
         belowAllKeys();
         aLeafInTheMiddleIsSplit();
         aLeafFrom2To5IsSplitAgain();
+        betweenTheTwoOfANewLeaf();
         absentRecordsCount();
         aKeyHasOneRecord();
         namesGoOn();
@@ -109,6 +110,22 @@ final class P05LeafBoundsTest {
         Check.commit(x, 0, 1, 8, 0);
         row(x, 1, 2, 4, 3, 4);
         row(x, 2, 3, 0, 2, 7);
+    }
+
+    private static void betweenTheTwoOfANewLeaf() {
+        for (int last = 21; last <= 24; last++) {
+            EpochLeaves x = withKeys(5, 10, 15, 20, 25);
+            for (int key = 24; key >= 21; key--) {
+                if (key != last) {
+                    Check.commit(x, 0, 1, key, 0);
+                }
+            }
+            row(x, 1, 2, 4, 3, 20);
+            row(x, 2, 3, 0, 2, last == 24 ? 23 : 24);
+            Check.commit(x, 0, 1, last, 0);
+            row(x, 1, 2, last == 24 ? 4 : 5, last == 24 ? 3 : 4, 20);
+            row(x, 2, 3, last == 24 ? 1 : 0, last == 24 ? 3 : 2, last == 24 ? 23 : 24);
+        }
     }
 
     private static void absentRecordsCount() {
